@@ -1,0 +1,189 @@
+import java.util.function.ToLongFunction;
+
+/** Promises 34 to 37, and that what is asked changes nothing. */
+public final class WholeTest {
+    private static final Due due = new Due();
+    private static final String HEAVY = "[((([a].[b]).[c]).a)]";
+
+    public static void main(String[] args) {
+        house();
+        everyActCounts();
+        knock();
+        isSound();
+        digest();
+        askingChangesNothing();
+        exceptionsChangeNothing();
+        due.end();
+    }
+
+    private static void house() {
+        Letterpeel x = new Letterpeel();
+        x.sign(0, 2);
+        x.again(0, 1);
+        x.sign(2, 1);
+        x.open(1);
+        x.read(0);
+        x.read(0);
+        x.read(1);
+        x.back();
+        due.is("acts", x.house(0), 8);
+        due.is("refusals", x.house(1), 0);
+        due.is("knocks", x.house(2), 0);
+        due.is("SIGNS", x.house(3), 7);
+        due.is("LETTERS", x.house(4), 2);
+        due.is("cells with the empty word", x.house(5), 2);
+        x.back();
+        x.back();
+        x.back();
+        x.knock();
+        due.is("acts", x.house(0), 10);
+        due.is("refusals", x.house(1), 1);
+        due.is("knocks", x.house(2), 1);
+        due.noArgument("house(6)", () -> x.house(6));
+        due.noArgument("house(-1)", () -> x.house(-1));
+    }
+
+    private static void everyActCounts() {
+        Letterpeel x = new Letterpeel();
+        counts("sign", x, y -> y.sign(0, 2));
+        counts("or", x, y -> y.or(0, 0, 1));
+        counts("and", x, y -> y.and(0, 0, 1));
+        counts("behind", x, y -> y.behind(0, 0, 1));
+        counts("not", x, y -> y.not(0, 1));
+        counts("again", x, y -> y.again(0, 1));
+        counts("copy", x, y -> y.copy(0, 0));
+        counts("swap", x, y -> y.swap(0, 0));
+        counts("turn", x, y -> y.turn(0));
+        counts("letter", x, y -> y.letter(0, 0));
+        counts("plain", x, y -> y.plain(0));
+        counts("rest", x, y -> y.rest(0, 0, 1));
+        counts("open", x, y -> y.open(0));
+        counts("read", x, y -> y.read(0));
+        counts("back", x, y -> y.back());
+    }
+
+    private static void counts(String name, Letterpeel x, ToLongFunction<Letterpeel> act) {
+        int acts = x.house(0);
+        act.applyAsLong(x);
+        due.is(name + " is counted", x.house(0), acts + 1);
+        due.is(name + " is not refused", x.house(1), 0);
+    }
+
+    private static void knock() {
+        Letterpeel x = new Letterpeel();
+        for (int i = 1; i <= 3; i++) {
+            due.is("knock", x.knock(), i);
+        }
+        due.is("knocks", x.house(2), 3);
+        due.is("a knock is no act", x.house(0), 0);
+        due.is("another object", new Letterpeel().knock(), 1);
+    }
+
+    private static void isSound() {
+        String[] texts = {"0", "!(a.[b])", "[(a.!b)]", "(!!a.((1.b)+0))", HEAVY, "![(c+!c)]", "(((![c].!b)+a).c)"};
+        for (String text : texts) {
+            Letterpeel x = Build.of(text);
+            x.open(0);
+            x.read(1);
+            due.is("isSound with " + text, x.isSound(), true);
+        }
+    }
+
+    /** The checksum once more, by the words of its promise and by what else is asked. */
+    private static long digestOf(Letterpeel x) {
+        long d = 8028;
+        for (int i = 0; i < 6; i++) {
+            d = d * 31 + x.signs(i);
+            for (char sign : x.text(i).toCharArray()) {
+                d = d * 31 + sign;
+            }
+            d = d * 31 + (x.empties(i) ? 1 : 0);
+        }
+        d = d * 31 + x.rests(0);
+        d = d * 31 + x.count(0, 4);
+        d = d * 31 + x.reader(0).length() - 1;
+        d = d * 31 + x.reader(1).length();
+        for (int what = 0; what < 6; what++) {
+            d = d * 31 + x.house(what);
+        }
+        return d * 31 + 1;
+    }
+
+    private static void digest() {
+        Letterpeel x = new Letterpeel();
+        // Six cells 1, 48, 0; then 1, 0, 0, 1; then 0, 0, 0, 6, 0, 0; then 1.
+        int[] values = {1, 48, 0, 1, 48, 0, 1, 48, 0, 1, 48, 0, 1, 48, 0, 1, 48, 0, 1, 0, 0, 1, 0, 0, 0, 6, 0, 0, 1};
+        long d = 8028;
+        for (int value : values) {
+            d = d * 31 + value;
+        }
+        due.is("digest of a new one", x.digest(), d);
+        due.is("digest once more", x.digest(), d);
+        String[][] rows = {{"(([(a+b)].a).b)", "!0"}, {HEAVY, "[(a.b)]"}, {"((a&!b)+(1.0))", "[(c&b)]", "c"}};
+        for (String[] row : rows) {
+            Letterpeel y = Build.of(row);
+            due.is("digest of " + String.join(", ", row), y.digest(), digestOf(y));
+            y.open(1);
+            y.read(0);
+            y.knock();
+            y.or(0, 0, 0);
+            due.is("digest behind some acts", y.digest(), digestOf(y));
+        }
+    }
+
+    private static void askingChangesNothing() {
+        Letterpeel x = Build.of("(([(a+b)].a).b)", "!(a.[b])", HEAVY, "[(a.b)]");
+        x.open(3);
+        x.read(0);
+        long digest = x.digest();
+        String state = state(x);
+        for (int i = 0; i < 4; i++) {
+            x.text(i);
+            x.signs(i);
+            x.empties(i);
+            x.takes(i, 2, 1, 0);
+            x.takes(i, 4, 1, 1);
+            x.restText(i, 3, 4);
+            x.rests(i);
+            x.next(i, 1, 1);
+            x.restAt(i, 2);
+            x.first(i);
+            x.count(i, 12);
+            x.listed(i, 3);
+            x.word(i, 5, 1);
+            x.same(i, 3 - i);
+            x.differ(i, 3 - i);
+            x.within(i, 3 - i);
+            x.law(7 + i, i, 0, 3);
+            x.reader(i % 2);
+            x.house(i);
+            x.isSound();
+        }
+        due.is("state", state(x), state);
+        due.is("digest", x.digest(), digest);
+    }
+
+    private static void exceptionsChangeNothing() {
+        Letterpeel x = Build.of("(a.b)", "[c]");
+        x.open(0);
+        x.read(0);
+        String state = state(x);
+        due.noCell("or", () -> x.or(0, 1, 6));
+        due.noCell("copy", () -> x.copy(0, 6));
+        due.noCell("swap", () -> x.swap(0, 6));
+        due.noCell("open", () -> x.open(6));
+        due.noArgument("rest", () -> x.rest(0, 3, 1));
+        due.noArgument("letter", () -> x.letter(0, 6));
+        due.noArgument("sign", () -> x.sign(0, 5));
+        due.noArgument("read", () -> x.read(3));
+        due.is("state", state(x), state);
+    }
+
+    private static String state(Letterpeel x) {
+        StringBuilder state = new StringBuilder();
+        for (int i = 0; i < 6; i++) {
+            state.append(x.text(i)).append(' ').append(x.house(i)).append(' ');
+        }
+        return state.append(x.reader(0)).append(x.reader(1)).toString();
+    }
+}
