@@ -693,9 +693,11 @@ public final class Letterpeel {
         private static final int EMPTY = 1;
         private static final int LETTERS = 2;
         private static final int ALL = 5;
-        private static final int MOST_NODES = 256;
-        private static final int MOST_PARTS = 2048;
-        private static final int MOST_WAITING = 512;
+        /** A side of a LAW makes at most 62 nodes, peeling one of 20 SIGNS at most 40 more. */
+        private static final int MOST_NODES = 128;
+        /** No node has 32 PARTS: a side of a LAW has at most 31 single signs. */
+        private static final int MOST_PARTS = 32 * MOST_NODES;
+        private static final int MOST_WAITING = 256;
 
         private final int[] kinds;
         private final int[] starts;
@@ -1181,6 +1183,7 @@ public final class Letterpeel {
     static final class RestTable {
         private static final int MOST = 10;
 
+        private final Row begun;
         private final Row[] rows;
         private final Row fresh;
         private final int[] nexts;
@@ -1190,6 +1193,7 @@ public final class Letterpeel {
         private boolean wide;
 
         RestTable() {
+            begun = new Row(SIDE_ROOM);
             rows = new Row[MOST];
             for (int i = 0; i < rows.length; i++) {
                 rows[i] = new Row(REST_ROOM);
@@ -1200,7 +1204,12 @@ public final class Letterpeel {
             ways = new int[(LONGEST_COUNTED + 1) * MOST];
         }
 
+        /** Does nothing if it stands from a like TEXT already: often much is asked of one cell in a row. */
         void explore(Grove grove, Row start) {
+            if (begun.isLike(start)) {
+                return;
+            }
+            begun.become(start);
             size = 0;
             wide = false;
             numberOf(grove, grove.load(start));

@@ -15,6 +15,7 @@ public final class AskOneTest {
         takesByBoth();
         restText();
         rests();
+        asksAnew();
         first();
         count();
         listed();
@@ -168,6 +169,24 @@ public final class AskOneTest {
         Letterpeel wide = Build.of(HEAVY);
         due.noArgument("next(0, 10, 0) of a WIDE one", () -> wide.next(0, 10, 0));
         due.noArgument("restAt(0, 10) of a WIDE one", () -> wide.restAt(0, 10));
+    }
+
+    /** What was asked before must not tell of a cell that has become another one. */
+    private static void asksAnew() {
+        Letterpeel x = Build.of("(a.b)", "c");
+        due.is("rests", x.rests(0) + x.restAt(0, 1), "4b");
+        due.is("rests of another cell", x.rests(1) + x.restAt(1, 1), "30");
+        x.letter(0, 3);
+        due.is("rests of another expression", x.rests(0) + x.restAt(0, 2), "4c");
+        x.swap(0, 1);
+        due.is("first", x.first(0) + x.first(1), "c-bc-");
+        x.again(1, 1);
+        due.is("count", x.count(1, 4), 1);
+        Letterpeel y = Build.of(HEAVY, "a");
+        due.is("rests of a WIDE one", y.rests(0), -9);
+        due.is("rests of another one", y.rests(1), 3);
+        due.is("rests of the WIDE one again", y.rests(0), -9);
+        due.is("and again", y.rests(0), -9);
     }
 
     private static void first() {

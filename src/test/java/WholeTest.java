@@ -1,3 +1,4 @@
+import java.lang.reflect.Field;
 import java.util.function.ToLongFunction;
 
 /** Promises 34 to 37, and that what is asked changes nothing. */
@@ -5,11 +6,12 @@ public final class WholeTest {
     private static final Due due = new Due();
     private static final String HEAVY = "[((([a].[b]).[c]).a)]";
 
-    public static void main(String[] args) {
+    public static void main(String[] args) throws ReflectiveOperationException {
         house();
         everyActCounts();
         knock();
         isSound();
+        isSoundLooks();
         digest();
         askingChangesNothing();
         exceptionsChangeNothing();
@@ -89,8 +91,37 @@ public final class WholeTest {
         }
     }
 
+    /** No call leads there, so the READER is given a 13th LETTER, and more than 20 SIGNS, by force. */
+    private static void isSoundLooks() throws ReflectiveOperationException {
+        Letterpeel x = new Letterpeel();
+        Object reading = fieldOf(x, "reading");
+        Field size = reading.getClass().getDeclaredField("size");
+        size.setAccessible(true);
+        size.setInt(reading, 13);
+        due.is("isSound with 13 LETTERS", x.isSound(), false);
+        due.is("digest with 13 LETTERS", x.digest(), digestOf(x, 13, 0));
+        size.setInt(reading, 0);
+        due.is("isSound with none", x.isSound(), true);
+        Letterpeel.Row opened = (Letterpeel.Row) fieldOf(reading, "opened");
+        opened.clear();
+        for (int i = 0; i < 21; i++) {
+            opened.add('!');
+        }
+        due.is("isSound with 21 SIGNS", x.isSound(), false);
+    }
+
+    private static Object fieldOf(Object object, String name) throws ReflectiveOperationException {
+        Field field = object.getClass().getDeclaredField(name);
+        field.setAccessible(true);
+        return field.get(object);
+    }
+
     /** The checksum once more, by the words of its promise and by what else is asked. */
     private static long digestOf(Letterpeel x) {
+        return digestOf(x, x.house(4), 1);
+    }
+
+    private static long digestOf(Letterpeel x, int letters, int sound) {
         long d = 8028;
         for (int i = 0; i < 6; i++) {
             d = d * 31 + x.signs(i);
@@ -101,12 +132,12 @@ public final class WholeTest {
         }
         d = d * 31 + x.rests(0);
         d = d * 31 + x.count(0, 4);
-        d = d * 31 + x.reader(0).length() - 1;
+        d = d * 31 + letters;
         d = d * 31 + x.reader(1).length();
         for (int what = 0; what < 6; what++) {
             d = d * 31 + x.house(what);
         }
-        return d * 31 + 1;
+        return d * 31 + sound;
     }
 
     private static void digest() {
