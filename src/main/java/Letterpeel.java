@@ -2,6 +2,7 @@
 public final class Letterpeel {
     private static final int NONE = -1;
     private static final int REFUSED = -9;
+    private static final int LARGEST = 2147483647;
     private static final int CELLS = 6;
     private static final int MOST_CELL_SIGNS = 14;
     private static final int MOST_REST_SIGNS = 20;
@@ -259,7 +260,7 @@ public final class Letterpeel {
     public int word(int cell, int length, int k) throws IndexOutOfBoundsException, IllegalArgumentException {
         Row row = cellAt(cell);
         needWithin(length, 0, LONGEST_COUNTED);
-        needWithin(k, 0, Integer.MAX_VALUE);
+        needWithin(k, 0, LARGEST);
         ones.explore(grove, row);
         return ones.isWide() ? REFUSED : ones.findWord(length, k);
     }

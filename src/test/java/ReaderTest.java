@@ -67,6 +67,9 @@ public final class ReaderTest {
         due.is("read on", x.read(2), 0);
         due.is("reader(0)", x.reader(0), "abababababac-");
         due.is("the 13th again", x.read(0), -9);
+        due.is("the REST behind 12", x.reader(1), "0");
+        due.is("back", x.back(), 11);
+        due.is("the REST behind 11", x.reader(1), "[(a+b)]");
 
         Letterpeel y = Build.of("[((([a].[b]).[c]).a)]");
         y.open(0);

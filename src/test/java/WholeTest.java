@@ -89,6 +89,16 @@ public final class WholeTest {
             x.read(1);
             due.is("isSound with " + text, x.isSound(), true);
         }
+        Letterpeel x = Build.of("![(c+!c)]", "!0");
+        x.open(0);
+        x.read(2);
+        x.read(2);
+        due.is("isSound with a REST of 20 SIGNS", x.isSound(), true);
+        x.open(1);
+        for (int i = 0; i < 12; i++) {
+            x.read(i % 3);
+        }
+        due.is("isSound with 12 LETTERS", x.isSound(), true);
     }
 
     /** No call leads there, so the READER is given a 13th LETTER, and more than 20 SIGNS, by force. */
