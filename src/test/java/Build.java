@@ -1,17 +1,11 @@
 /** Puts an expression into a cell by its TEXT, with acts alone; joins have two PARTS there. */
 final class Build {
-    private final Letterpeel x;
-    private final String text;
-    private int at;
-
-    private Build(Letterpeel x, String text) {
-        this.x = x;
-        this.text = text;
+    private Build() {
     }
 
-    /** Uses the cells behind the one that gets it, too, as far as the TEXT nests to the right. */
+    /** Uses the one or two cells behind the one that gets it, too, if the TEXT has joins. */
     static void put(Letterpeel x, int cell, String text) {
-        new Build(x, text).part(cell);
+        build(x, cell, Model.Tree.of(text));
         if (!x.text(cell).equals(text)) {
             throw new IllegalStateException("built " + x.text(cell) + " for " + text);
         }
@@ -35,32 +29,45 @@ final class Build {
         return x;
     }
 
-    private void part(int cell) {
-        char sign = text.charAt(at++);
-        switch (sign) {
-            case '!' -> {
-                part(cell);
-                x.not(cell, cell);
-            }
-            case '[' -> {
-                part(cell);
-                at++;
-                x.again(cell, cell);
-            }
-            case '(' -> joined(cell);
-            default -> x.sign(cell, "01abc".indexOf(sign));
+    private static void build(Letterpeel x, int cell, Model.Tree tree) {
+        if (tree.joins()) {
+            join(x, cell, tree);
+            return;
+        }
+        if (tree.parts().isEmpty()) {
+            x.sign(cell, "01abc".indexOf(tree.kind()));
+            return;
+        }
+        build(x, cell, tree.parts().get(0));
+        if (tree.kind() == '!') {
+            x.not(cell, cell);
+        } else {
+            x.again(cell, cell);
         }
     }
 
-    private void joined(int cell) {
-        part(cell);
-        char join = text.charAt(at++);
-        part(cell + 1);
-        at++;
-        switch (join) {
-            case '+' -> x.or(cell, cell + 1, cell);
-            case '&' -> x.and(cell, cell + 1, cell);
-            default -> x.behind(cell, cell + 1, cell);
+    /** The PART that needs more cells is built first, so that three are enough for 14 SIGNS. */
+    private static void join(Letterpeel x, int cell, Model.Tree tree) {
+        Model.Tree one = tree.parts().get(0);
+        Model.Tree other = tree.parts().get(1);
+        boolean turned = cellsFor(other) > cellsFor(one);
+        build(x, cell, turned ? other : one);
+        build(x, cell + 1, turned ? one : other);
+        int first = turned ? cell + 1 : cell;
+        int second = turned ? cell : cell + 1;
+        switch (tree.kind()) {
+            case '+' -> x.or(first, second, cell);
+            case '&' -> x.and(first, second, cell);
+            default -> x.behind(first, second, cell);
         }
+    }
+
+    private static int cellsFor(Model.Tree tree) {
+        int most = 1;
+        for (Model.Tree part : tree.parts()) {
+            int cells = cellsFor(part);
+            most = tree.joins() && cells == most && part != tree.parts().get(0) ? most + 1 : Math.max(most, cells);
+        }
+        return most;
     }
 }
