@@ -574,8 +574,9 @@ public final class Letterpeel {
 
     private int cellsWithEmpty() {
         int many = 0;
+        meaning.choose(0, 0, false);
         for (int i = 0; i < cells.length; i++) {
-            if (empties(i)) {
+            if (meaning.isTakenBy(cells[i])) {
                 many++;
             }
         }
@@ -778,7 +779,10 @@ public final class Letterpeel {
         }
 
         private int partOf(int node, int number) {
-            if (node < 0 || node >= nodes || node >= starts.length || number < 0 || number >= counts[node]) {
+            if (node < 0 || node >= nodes || node >= starts.length || node >= counts.length) {
+                return NOTHING;
+            }
+            if (number < 0 || number >= counts[node]) {
                 return NOTHING;
             }
             int at = starts[node] + number;
@@ -799,8 +803,7 @@ public final class Letterpeel {
         /** A new node whose PARTS are those that wait from start on. */
         private int grow(int kind, int start) {
             int many = top - start;
-            boolean fits = many >= 0 && filled >= 0 && filled <= parts.length - many;
-            if (!fits || nodes < 0 || nodes >= kinds.length) {
+            if (!hasRoom() || many < 0 || filled < 0 || filled > parts.length - many) {
                 top = start;
                 return NOTHING;
             }
@@ -822,6 +825,11 @@ public final class Letterpeel {
             nodes++;
             top = start;
             return node;
+        }
+
+        private boolean hasRoom() {
+            boolean named = nodes >= 0 && nodes < kinds.length && nodes < weights.length && nodes < empty.length;
+            return named && nodes < starts.length && nodes < counts.length;
         }
 
         private static boolean takesEmpty(int kind, int many, int withEmpty) {
@@ -1368,7 +1376,7 @@ public final class Letterpeel {
         String wordTo(int pair) {
             StringBuilder word = new StringBuilder();
             int at = pair;
-            for (int i = 0; i < MOST && at > 0 && at < size && at < cameFrom.length; i++) {
+            for (int i = 0; i < MOST && at > 0 && at < cameBy.length && at < cameFrom.length; i++) {
                 word.append((char) ('a' + cameBy[at]));
                 at = cameFrom[at];
             }
@@ -1379,7 +1387,10 @@ public final class Letterpeel {
 
         private void meet(int left, int right, int from, int letter) {
             int pair = left * RestTable.MOST + right;
-            if (left < 0 || right < 0 || pair >= known.length || size < 0 || size >= met.length || known[pair]) {
+            if (left < 0 || right < 0 || pair < 0 || pair >= known.length || known[pair]) {
+                return;
+            }
+            if (size < 0 || size >= met.length || size >= cameFrom.length || size >= cameBy.length) {
                 return;
             }
             known[pair] = true;

@@ -17,6 +17,7 @@ public final class EdgesTest {
         takesOnTheWay();
         restTextUpTo20Signs();
         nextAndRestAtBehindTheLast();
+        nextAndRestAtBehindOneOfMore();
         firstOfFewAndMany();
         countOfEachLength();
         listedOfEachLength();
@@ -189,6 +190,26 @@ public final class EdgesTest {
                         due.is("the REST " + k + " by " + letter, x.restAt(0, next), way);
                     }
                 }
+            }
+        }
+    }
+
+    /** What was asked of a CELL with ten RESTS, or of a WIDE one, is not told of one with fewer. */
+    private static void nextAndRestAtBehindOneOfMore() {
+        for (String text : new String[] {"((!(c.!b).a).!b)", HEAVY, "(((![a].!b)+c).c)"}) {
+            Letterpeel x = Build.of(text, "a", "0");
+            for (int k = 0; k < 10; k++) {
+                x.rests(0);
+                due.is("restAt of NOTHING", x.restAt(2, k), k == 0 ? "0" : "");
+                x.rests(0);
+                due.is("next of NOTHING", x.next(2, k, k % 3), k == 0 ? 0 : -1);
+                x.rests(0);
+                due.is("restAt of a LETTER", x.restAt(1, k), k < 3 ? "a10".substring(k, k + 1) : "");
+                x.rests(0);
+                due.is("next of a LETTER", x.next(1, k, 0), k == 0 ? 1 : k < 3 ? 2 : -1);
+                due.is("rests", x.rests(0), text.equals("((!(c.!b).a).!b)") ? 10 : -9);
+                due.is("count", x.count(2, k) + x.count(1, k), k == 1 ? 1 : 0);
+                due.is("word", x.word(1, 1, 0), 0);
             }
         }
     }

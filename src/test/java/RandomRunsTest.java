@@ -78,10 +78,18 @@ public final class RandomRunsTest {
             System.out.println(call + " answered " + answer + ", due is " + wanted);
         }
         for (int i = 0; i < 6; i++) {
-            if (!x.text(i).equals(model.text(i))) {
-                wrong++;
-                System.out.println("after " + call + " cell " + i + " has " + x.text(i) + ", due is " + model.text(i));
-            }
+            isSame("text(" + i + ")", call, x.text(i), model.text(i));
+            isSame("house(" + i + ")", call, x.house(i), model.house(i));
+        }
+        isSame("reader(0)", call, x.reader(0), model.reader(0));
+        isSame("reader(1)", call, x.reader(1), model.reader(1));
+    }
+
+    /** What stands behind each call, so that a wrong act is told at once and not when somebody asks. */
+    private void isSame(String what, String call, Object got, Object due) {
+        if (!got.equals(due)) {
+            wrong++;
+            System.out.println(what + " behind " + call + " is " + got + ", due is " + due);
         }
     }
 

@@ -12,6 +12,7 @@ public final class WholeTest {
         knock();
         isSound();
         isSoundLooks();
+        isSoundLooksAtWords();
         digest();
         askingChangesNothing();
         exceptionsChangeNothing();
@@ -118,6 +119,44 @@ public final class WholeTest {
             opened.add('!');
         }
         due.is("isSound with 21 SIGNS", x.isSound(), false);
+    }
+
+    /** Nor does a call make these unlike: by force the RESTS of another EXPRESSION, or rows with too little room. */
+    private static void isSoundLooksAtWords() throws ReflectiveOperationException {
+        String[] texts = {"1", "b", "c", "(a.a)", "(c.c)", "((a.b).c)", "((c.c).c)"};
+        for (String text : texts) {
+            Letterpeel x = Build.of(text);
+            x.sign(1, 0);
+            x.rests(1);
+            Letterpeel.Row begun = (Letterpeel.Row) fieldOf(fieldOf(x, "ones"), "begun");
+            begun.clear();
+            for (char sign : text.toCharArray()) {
+                begun.add(sign);
+            }
+            // The RESTS are those of NOTHING then; words of more than two LETTERS are not looked at.
+            due.is("isSound of " + text + " with other RESTS", x.isSound(), text.length() > 5);
+            x.swap(0, 1);
+            due.is("isSound of the CELL 0 alone", x.isSound(), true);
+        }
+        due.is("isSound with too little room for the TURNED one", isSoundWithout("turned", "(a.b)"), false);
+        due.is("isSound where none is turned", isSoundWithout("turned", "a"), true);
+        due.is("isSound with too little room for the PLAIN one", isSoundWithout("plained", "!a"), false);
+        due.is("isSound where the PLAIN one is short", isSoundWithout("plained", "(0.a)"), true);
+        Letterpeel x = Build.of("a", "c");
+        x.rests(0);
+        int[] kinds = (int[]) fieldOf(fieldOf(x, "grove"), "kinds");
+        kinds[2] = 'b';
+        due.is("isSound where a is b when PLAIN, and its RESTS are right", x.isSound(), false);
+        x.copy(1, 0);
+        due.is("isSound where c is c", x.isSound(), true);
+    }
+
+    private static boolean isSoundWithout(String name, String text) throws ReflectiveOperationException {
+        Letterpeel x = Build.of(text);
+        Field field = Letterpeel.class.getDeclaredField(name);
+        field.setAccessible(true);
+        field.set(x, new Letterpeel.Row(1));
+        return x.isSound();
     }
 
     private static Object fieldOf(Object object, String name) throws ReflectiveOperationException {
