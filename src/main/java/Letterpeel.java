@@ -1302,11 +1302,11 @@ public final class Letterpeel {
                     return k;
                 }
             }
-            if (size < 0 || size >= rows.length || size >= taking.length) {
+            int number = size;
+            if (number < 0 || number >= rows.length || number >= taking.length) {
                 wide = true;
                 return NONE;
             }
-            int number = size;
             rows[number].become(fresh);
             taking[number] = grove.hasEmpty(node);
             size++;

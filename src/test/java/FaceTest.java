@@ -2,15 +2,11 @@ import java.lang.reflect.Constructor;
 import java.lang.reflect.Field;
 import java.lang.reflect.Method;
 import java.lang.reflect.Modifier;
-import java.nio.file.Files;
-import java.nio.file.Path;
 import java.util.Arrays;
 import java.util.Set;
 import java.util.TreeSet;
-import java.util.regex.Matcher;
-import java.util.regex.Pattern;
 
-/** The public face, and those rules of LANGUAGE.md that can be seen from outside or in the plain text. */
+/** The public face, and rules 1, 2, 5 and 11 of LANGUAGE.md as they can be seen from outside. */
 public final class FaceTest {
     private static final Due due = new Due();
     private static final String CELL = "IndexOutOfBoundsException";
@@ -27,10 +23,9 @@ public final class FaceTest {
         "int within(2) " + CELL, "int law(4) " + BOTH, "String reader(1) " + ARGUMENT, "int house(1) " + ARGUMENT,
         "int knock(0) ", "boolean isSound(0) ", "long digest(0) "};
 
-    public static void main(String[] args) throws Exception {
+    public static void main(String[] args) {
         face();
         nothingElse();
-        language(Files.readString(Path.of(args[0])));
         due.end();
     }
 
@@ -96,38 +91,5 @@ public final class FaceTest {
             }
         }
         due.is(type + " has few fields", fields <= 20, true);
-    }
-
-    private static void language(String source) {
-        String code = source.replaceAll("(?s)/\\*.*?\\*/", " ").replaceAll("//[^\n]*", " ");
-        String[] ruledOut = {"import ", "package ", "->", "::", "try", "catch", "finally", "synchronized", "assert",
-            "System.out", "System.exit", "Exact(", "instanceof", "Random", "Thread", "static {", "@"};
-        String bare = code.replaceAll("\"[^\"\n]*\"", "\"\"");
-        for (String word : ruledOut) {
-            due.is("the source has " + word, bare.contains(word), false);
-        }
-        due.is("texts are joined by +", Pattern.compile("\"\"\\s*\\+|\\+\\s*\"\"").matcher(bare).find(), false);
-        Matcher thrown = Pattern.compile("throw\\s+(.*?)\\(").matcher(bare);
-        while (thrown.find()) {
-            due.is("thrown", thrown.group(1).matches("new (IndexOutOfBounds|IllegalArgument)Exception"), true);
-        }
-        methodsAreShort(code);
-    }
-
-    private static void methodsAreShort(String code) {
-        int lines = 0;
-        boolean inside = false;
-        for (String line : code.split("\n")) {
-            boolean head = line.matches(" {4}(?: {4})?(?:public |private |static |final )*[\\w\\[\\]]+ ?\\w*\\(.*\\{");
-            if (head && !line.contains(" class ")) {
-                inside = true;
-                lines = 0;
-            }
-            lines++;
-            if (inside && line.matches(" {4}(?: {4})?\\}")) {
-                due.is("a method of " + lines + " lines", lines <= 60, true);
-                inside = false;
-            }
-        }
     }
 }
